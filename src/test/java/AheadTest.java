@@ -154,6 +154,7 @@ public final class AheadTest {
             o.drawRules(random, boat);
             int t = random.nextInt(o.things);
             int b = random.nextInt(11);
+            int told = boat.forTwo(t, b);
             int best = 0;
             long most = Long.MIN_VALUE;
             for (int q = 0; q <= 40; q++) {
@@ -162,7 +163,7 @@ public final class AheadTest {
                 best = due > most ? q : best;
                 most = Math.max(most, due);
             }
-            Check.due("forTwo", boat.forTwo(t, b), best);
+            Check.due("forTwo", told, best);
             int q = random.nextInt(41);
             Check.due("no second winter", boat.second(t, q, 0), o.scoreAny(t, q) * Oracle.power(o.weeks + 2));
         }

@@ -73,9 +73,20 @@ public final class PostTest {
         Check.due("fault(2) of " + text, boat.fault(2), LastBoat.NONE);
     }
 
+    /** What stood behind the text before end() cut it off is no part of it. */
+    private static void cutOff(String text, String behind, int kind, int place) {
+        LastBoat boat = new LastBoat();
+        Check.put(boat, text + behind);
+        boat.end(text.length());
+        boat.post();
+        Check.due("fault(0) of " + text, boat.fault(0), kind);
+        Check.due("fault(1) of " + text, boat.fault(1), place);
+    }
+
     private static void tokens() {
         Check.told("", 0);
         Check.told(" \n ", 0);
+        Check.told("thing az 1 2 3 4 5 0;thing za 1 2 3 4 5 0;instead az za 5;", 3);
         Check.told("weeks3;cases004;", 2);
         Check.told("\n\nweeks\n3 ;\n", 1);
         Check.told("thing abcdefgh1 2 3 4 5 0;thing thing 1 2 3 4 5 0;thing weeks 1 2 3 4 5 0;", 3);
@@ -84,6 +95,15 @@ public final class PostTest {
 
     private static void syntax() {
         faultDue("week 3;", 1, 0);
+        faultDue("aeeks 3;", 1, 0);
+        faultDue("weekz 3;", 1, 0);
+        cutOff("weeks 5", "5;", 1, 7);
+        cutOff("thing", "s", 1, 5);
+        cutOff("weeks ", "5;", 1, 6);
+        cutOff("weeks 1;", "#", 0, LastBoat.NONE);
+        cutOff("weeks 1;cases 1", "2345;", 1, 15);
+        cutOff("thing abcdefgh", "i", 1, 14);
+        cutOff("cases 123", "4", 2, 6);
         faultDue("weekss 3;", 1, 0);
         faultDue("3;", 1, 0);
         faultDue(";", 1, 0);

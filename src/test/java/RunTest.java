@@ -149,6 +149,12 @@ public final class RunTest {
     }
 
     private static void begins() {
+        for (int what = -1; what < 4; what++) {
+            Check.due("ran on a new object", new LastBoat().ran(what), FAR_NONE);
+        }
+        for (int slot = 0; slot < 3; slot++) {
+            Check.due("take on a new object", new LastBoat().take(slot), LastBoat.STATE);
+        }
         LastBoat bare = Check.told("thing t 1 1 1 1 1 0;", 1);
         Check.putRow(bare, 1);
         Check.due("no WINTERS", bare.begin(1), LastBoat.STATE);

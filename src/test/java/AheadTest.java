@@ -227,5 +227,7 @@ public final class AheadTest {
         Check.due("bound -1", boat.trust(-1), LastBoat.RANGE);
         Check.due("bound 10000", boat.trust(10000), LastBoat.RANGE);
         Check.due("no FAMILIES", new LastBoat().trust(9999), 0);
+        Check.due("the least gain", Check.told("family a 9 9 1;", 1).trust(9), 1);
+        Check.due("no gain", Check.told("family a 9 10 1;", 1).trust(10), 0);
     }
 }

@@ -38,6 +38,8 @@ public final class OneThingTest {
         LastBoat spoils = Check.told("weeks 5;winter a 10 10 0 0;thing t 1 1 1 1 1 2;want t a 0 0 0 10 3;", 4);
         Check.due("none is SURE", spoils.sure(0, 999), LastBoat.NONE);
         Check.due("all are SURE for one of 1", spoils.sure(0, 1), 0);
+        LastBoat last = Check.told("weeks 5;winter a 10 10 0 0;thing t 1 1 1 1 1 2;want t a 0 7 0 3 3;", 4);
+        Check.due("the last that may be is SURE", last.sure(0, 3), 40);
         Check.due("SAFE of none, upper", spoils.safe(0, 40, 0, false), 0);
         Check.due("SAFE of none, lower", spoils.safe(0, 40, 0, true), 1);
     }

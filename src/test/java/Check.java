@@ -3,8 +3,11 @@ import java.nio.charset.StandardCharsets;
 /** What all tests use: answers that are due, and texts put on the tape. */
 final class Check {
     static final long FAR = -9000000000000000000L;
+    static final int FAR_NONE = -1000000;
     private static int wrong = 0;
     private static int asked = 0;
+    private static String test = "";
+    private static boolean isSentenceSaid = false;
 
     private Check() {
     }
@@ -14,7 +17,7 @@ final class Check {
         if (got != want) {
             wrong++;
             if (wrong <= 40) {
-                System.out.println(what + " answered " + got + ", due is " + want);
+                System.out.println(test + what + " answered " + got + ", due is " + want);
             }
         }
     }
@@ -23,12 +26,33 @@ final class Check {
         due(what, holds ? 1 : 0, 1);
     }
 
+    /** A test of one sentence begins: what is wrong from here on is told with its name. */
+    static void begin(String name) {
+        test = name.isEmpty() ? "" : name + ": ";
+        isSentenceSaid = false;
+    }
+
+    static void sentence(String words) {
+        isSentenceSaid = true;
+        isTrue("the document says: " + words, Sentences.isInDocument(words));
+    }
+
+    static boolean isSentenceSaid() {
+        return isSentenceSaid;
+    }
+
     static void put(LastBoat boat, String text) {
         put(boat, text.getBytes(StandardCharsets.ISO_8859_1));
     }
 
     static void put(LastBoat boat, byte[] bytes) {
         boat.end(0);
+        feed(boat, bytes);
+    }
+
+    /** Bytes behind those that the tape has; blanks fill the last twenty and are cut off again. */
+    static void feed(LastBoat boat, byte[] bytes) {
+        int before = boat.count(1);
         int[] five = new int[5];
         int padded = (bytes.length + 19) / 20 * 20;
         for (int i = 0; i < padded; i++) {
@@ -38,7 +62,7 @@ final class Check {
                 boat.feed(five[0], five[1], five[2], five[3], five[4]);
             }
         }
-        due("end(" + bytes.length + ")", boat.end(bytes.length), bytes.length);
+        due("end(" + (before + bytes.length) + ")", boat.end(before + bytes.length), before + bytes.length);
     }
 
     /** A row of numbers as the tape has it: 48 and the number, a byte each. */

@@ -83,6 +83,16 @@ public final class AllThingsEdgesTest {
         LastBoat boat = Check.told(W, 1);
         Check.due("the sum of none", boat.list(), 0);
         listed(boat, NONE, NONE, NONE, NONE);
+        Check.put(boat, W + "thing a 1 0 0 0 9 0;thing b 1 0 0 0 9 0;");
+        Check.due("post() of two THINGS", boat.post(), 3);
+        Check.isTrue("the sum of two", boat.list() > 0);
+        Check.put(boat, W);
+        Check.due("post() without THINGS again", boat.post(), 1);
+        Check.due("the sum of none again", boat.list(), 0);
+        Check.put(boat, W + "thing a 9 1 0 0 0 0;");
+        Check.due("post() of one THING", boat.post(), 2);
+        Check.due("the sum of one that none wants", boat.list(), 0);
+        listed(boat, 0, NONE, NONE, NONE);
     }
 
     static void promise17_rangeWithoutWinters() {
@@ -200,7 +210,21 @@ public final class AllThingsEdgesTest {
         Check.due("one more is worth nothing", next(Check.told(W + "thing a 1 5 0 0 5 0;", 2), 0), NONE);
         Check.due("one more is worth less", next(Check.told(W + "thing a 1 5 0 0 4 0;", 2), 0), NONE);
         Check.due("one more is worth more", next(Check.told(W + "thing a 1 5 0 0 6 0;", 2), 0), 0);
+        LastBoat boat = Check.told("weeks 1;" + W + "thing a 1 1 9 0 0 0;want a w 0 0 0 10 0;", 4);
+        Check.due("two of three", next(boat, 2), 0);
+        Check.due("three of three: a SCORE above 0 that does not grow", next(boat, 3), NONE);
         Check.due("no THINGS", next(Check.told(W, 1)), NONE);
+    }
+
+    static void promise19_theLeastThatMayGrow() {
+        Check.sentence("whose SCORE grows most with one more, for each case of its ROOM (compared as fractions)");
+        // One way of a hundred, a PAY of 1: the SCORE grows by 1, the least whole number there is.
+        for (int room : new int[] { 1, 9 }) {
+            LastBoat boat = Check.told("weeks 1;winter v 1 10 0 0;winter w 9 10 0 0;thing a " + room + " 0 1 0 0 0;want a v 9 1 0 0 0;", 5);
+            Check.due("the SCORE of one", boat.score(0, 1, NONE), 1);
+            Check.due("it grows", next(boat, 0), 0);
+            Check.due("it does not grow again", next(boat, 1), NONE);
+        }
     }
 
     static void promise19_itMayBeMoreThanTheCases() {

@@ -31,6 +31,19 @@ public final class FaultEdgesTest {
         Check.due("clauses that stay, " + ahead + then, boat.count(0), 0);
     }
 
+    /** What was told in an earlier post, or in one that had a fault, is not told in this one. */
+    private static void takenAgainAndAgain(String text, int clauses) {
+        LastBoat boat = new LastBoat();
+        for (int turn = 0; turn < 3; turn++) {
+            Check.put(boat, text);
+            Check.due("post() of " + text, boat.post(), clauses);
+            Check.put(boat, text + "#");
+            Check.due("post() of " + text + "#", boat.post(), NONE);
+            Check.due("KIND of " + text + "#", boat.fault(0), SYNTAX);
+            Check.due("PLACE of " + text + "#", boat.fault(1), text.length());
+        }
+    }
+
     static void termI_faultPlaceIsATokensFirstByte() {
         Check.sentence("FAULTS: KIND and PLACE (a TOKEN's first byte; the text's length at its end)");
         fault("", "abcdefghi;", SYNTAX);
@@ -89,6 +102,8 @@ public final class FaultEdgesTest {
         Check.sentence("1 SYNTAX: a TOKEN (or byte that is none, a run that is too long) with which no text goes on.");
         fault("", "week 1;", SYNTAX);
         fault("", "weeksa 1;", SYNTAX);
+        fault("", "weekz 1;", SYNTAX);
+        fault("", "aeeks 1;", SYNTAX);
         fault("", "w 1;", SYNTAX);
         fault("", "3;", SYNTAX);
         fault("", ";", SYNTAX);
@@ -156,6 +171,7 @@ public final class FaultEdgesTest {
         fault("weeks 1;cases 40;" + W, "cases 40;", TWICE);
         // What is told by itself, at first, is not yet told.
         Check.told("weeks 4;cases 40;", 2);
+        takenAgainAndAgain("weeks 4;cases 40;", 2);
     }
 
     static void termI_fault3TwiceANameThatOneOfItsKindHas() {
@@ -166,10 +182,7 @@ public final class FaultEdgesTest {
         fault("family a 1 1 1;family b 1 1 1;family c 1 1 1;family d 1 1 1;family e 1 1 1;family ", "a 1 1 1;", TWICE);
         Check.told("winter a 10 10 0 0;" + A + "family a 1 1 1;", 3);
         Check.told(A + "thing aa 1 2 3 4 5 0;thing b 1 2 3 4 5 0;thing ab 1 2 3 4 5 0;", 4);
-        // A post that was told its names is no longer there.
-        LastBoat boat = Check.told(A, 1);
-        Check.put(boat, A);
-        Check.due("the same name in another POST", boat.post(), 1);
+        takenAgainAndAgain(W + A + "family a 1 1 1;", 3);
     }
 
     static void termI_fault3TwiceTheWinterOfAWant() {
@@ -178,9 +191,7 @@ public final class FaultEdgesTest {
         Check.told(two + "want a v 10 0 0 0 0;want a w 10 0 0 0 0;want b v 10 0 0 0 0;want b w 10 0 0 0 0;", 8);
         fault(two + "want a v 10 0 0 0 0;want a ", "v 10 0 0 0 0;", TWICE);
         fault(two + "want a w 10 0 0 0 0;want b w 10 0 0 0 0;want a ", "w 0 10 0 0 0;", TWICE);
-        LastBoat boat = Check.told(two + "want a v 10 0 0 0 0;", 5);
-        Check.put(boat, two + "want a v 10 0 0 0 0;");
-        Check.due("the same want in another POST", boat.post(), 5);
+        takenAgainAndAgain(two + "want a v 10 0 0 0 0;", 5);
     }
 
     static void termI_fault3TwiceTheSecondThingOfAnInstead() {
@@ -192,9 +203,7 @@ public final class FaultEdgesTest {
         // One may do for two, two for each other, and one that is done for may do for a third.
         Check.told(A + B + C + "instead a b 1;instead a c 1;instead b a 1;", 6);
         Check.told(A + B + C + D + "instead a b 1;instead b c 1;instead c d 1;instead d a 1;", 8);
-        LastBoat boat = Check.told(A + B + "instead a b 1;", 3);
-        Check.put(boat, A + B + "instead a b 1;");
-        Check.due("the same instead in another POST", boat.post(), 3);
+        takenAgainAndAgain(A + B + "instead a b 1;", 3);
     }
 
     static void termI_fault4RoomTooManyAtItsFirstWord() {
@@ -209,7 +218,7 @@ public final class FaultEdgesTest {
         Check.told(SIX_FAMILIES, 6);
         fault(SIX_FAMILIES, "family", ROOM);
         fault(SIX_FAMILIES, "family g 11 0 501;", ROOM);
-        Check.told(FOUR_WINTERS + SIX_FAMILIES + A + B + C + D, 14);
+        takenAgainAndAgain(FOUR_WINTERS + SIX_FAMILIES + A + B + C + D, 14);
     }
 
     static void termI_fault5UnknownAWThatIsNoneOfItsKind() {

@@ -299,6 +299,8 @@ public final class OneThingEdgesTest {
         Check.due("each one more is worth less", Check.told("winter w 10 10 0 0;thing t 1 2 0 0 1 0;", 2).one(0), 0);
         Check.due("all alike: the least", Check.told("winter w 10 10 0 0;thing t 1 2 0 0 2 0;", 2).one(0), 0);
         Check.due("each one more is worth more", Check.told("winter w 10 10 0 0;thing t 1 2 0 0 3 0;", 2).one(0), 40);
+        LastBoat one = Check.told("weeks 1;winter w 10 10 0 0;thing t 1 2 9 0 0 0;want t w 0 10 0 0 0;", 4);
+        Check.due("one and no more", one.one(0), 1);
         LastBoat boat = Check.told("weeks 1;winter w 10 10 0 0;thing t 1 2 9 0 2 0;want t w 0 0 10 0 0;", 4);
         Check.due("alike from 2 on", boat.one(0), 2);
         ruled(boat, KEEP, 40);

@@ -34,6 +34,12 @@ public final class PostEdgesTest {
         Check.due("bytes behind " + text, boat.count(1), 0);
     }
 
+    /** One object is told many posts, and may keep its rows for the next but one. */
+    private static void again(LastBoat boat, String text, int clauses) {
+        Check.put(boat, text);
+        Check.due("post() of " + text, boat.post(), clauses);
+    }
+
     /** Both sides of an N's bounds; it is then seen by told(what). */
     private static void bounds(String before, String behind, int least, int most, int what) {
         taken(before + least + behind, what, least);
@@ -195,10 +201,12 @@ public final class PostEdgesTest {
         Check.sentence("weeks 1 .. 5 (4), ahead of all else.");
         taken("", 0, 4);
         taken("cases 3;", 0, 4);
-        LastBoat boat = Check.told("weeks 5;", 1);
-        Check.put(boat, "cases 3;");
-        Check.due("post()", boat.post(), 1);
-        Check.due("WEEKS are not those of the POST that was", boat.told(0), 4);
+        LastBoat boat = new LastBoat();
+        for (int turn = 0; turn < 3; turn++) {
+            again(boat, "weeks 5;", 1);
+            again(boat, "cases 3;", 1);
+            Check.due("WEEKS are not those of a POST that was", boat.told(0), 4);
+        }
     }
 
     static void termI_weeksAheadOfAllElse() {
@@ -217,10 +225,12 @@ public final class PostEdgesTest {
         Check.sentence("cases 0 .. 99 (40).");
         taken("", 1, 40);
         taken("weeks 3;", 1, 40);
-        LastBoat boat = Check.told("cases 7;", 1);
-        Check.put(boat, "weeks 3;");
-        Check.due("post()", boat.post(), 1);
-        Check.due("cases are not those of the POST that was", boat.told(1), 40);
+        LastBoat boat = new LastBoat();
+        for (int turn = 0; turn < 3; turn++) {
+            again(boat, "cases 7;", 1);
+            again(boat, "weeks 3;", 1);
+            Check.due("cases are not those of a POST that was", boat.told(1), 40);
+        }
     }
 
     static void termI_weight0To10() {
@@ -460,11 +470,16 @@ public final class PostEdgesTest {
 
     static void promise04_anEmptyTapeIsAPostOfWhichNothingIsTold() {
         Check.sentence("THE TAPE is a POST: how many clauses");
-        LastBoat boat = Refused.boatWithAll();
-        boat.end(0);
-        Check.due("post() of no byte", boat.post(), 0);
-        nothingIsTold(boat);
-        nothingIsAhead(boat);
+        for (int posts = 1; posts <= 3; posts++) {
+            LastBoat boat = Refused.boatWithAll();
+            for (int more = 1; more < posts; more++) {
+                again(boat, Refused.TEXT, Refused.CLAUSES);
+            }
+            boat.end(0);
+            Check.due("post() of no byte", boat.post(), 0);
+            nothingIsTold(boat);
+            nothingIsAhead(boat);
+        }
     }
 
     // ---- Promise 4
@@ -569,16 +584,14 @@ public final class PostEdgesTest {
         Check.sentence("All RULES are FREE then; RUN, SLOTS, what list() told are gone.");
         String text = "weeks 1;winter w 10 10 0 0;thing a 1 0 1 0 0 0;thing b 1 0 1 0 0 0;thing c 1 0 1 0 0 0;thing d 1 0 1 0 0 0;"
             + "want a w 0 0 10 0 0;want b w 0 0 10 0 0;want c w 0 0 10 0 0;want d w 0 0 10 0 0;";
-        LastBoat boat = Check.told(text, 10);
-        for (int t = 0; t < 4; t++) {
-            Check.due("FREE at first", boat.means(t, 2, 0, 0), 20);
-            Check.due("rule", boat.rule(t, 1 + t % 2, 40), 1);
-            Check.due("no longer FREE", boat.means(t, 2, 0, 0), t % 2 == 0 ? 0 : 10);
-        }
-        Check.put(boat, text);
-        Check.due("post()", boat.post(), 10);
-        for (int t = 0; t < 4; t++) {
-            Check.due("FREE again", boat.means(t, 2, 0, 0), 20);
+        LastBoat boat = new LastBoat();
+        for (int turn = 0; turn < 4; turn++) {
+            again(boat, text, 10);
+            for (int t = 0; t < 4; t++) {
+                Check.due("FREE at first, and again", boat.means(t, 2, 0, 0), 20);
+                Check.due("rule", boat.rule(t, 1 + (t + turn) % 2, 40), 1);
+                Check.due("no longer FREE", boat.means(t, 2, 0, 0), (t + turn) % 2 == 0 ? 0 : 10);
+            }
         }
     }
 
@@ -718,14 +731,18 @@ public final class PostEdgesTest {
 
     static void promise07_untold10WeeksOf0And0Needed() {
         Check.sentence("(Untold: 10 weeks of 0, 0 NEEDED.)");
-        LastBoat boat = Check.told(WINTER + TWO_THINGS + "want a w 0 0 0 10 3;", 4);
-        for (int n = 0; n < 5; n++) {
-            Check.due("untold " + n, boat.wants(1, 0, n), n == 0 ? 10 : 0);
-        }
-        Check.put(boat, WINTER + TWO_THINGS);
-        Check.due("post()", boat.post(), 3);
-        for (int n = 0; n < 5; n++) {
-            Check.due("no longer told " + n, boat.wants(0, 0, n), n == 0 ? 10 : 0);
+        LastBoat boat = new LastBoat();
+        for (int turn = 0; turn < 3; turn++) {
+            again(boat, WINTER + TWO_THINGS + "want a w 0 1 2 7 3;", 4);
+            for (int n = 0; n < 5; n++) {
+                Check.due("untold " + n, boat.wants(1, 0, n), n == 0 ? 10 : 0);
+            }
+            again(boat, WINTER + TWO_THINGS, 3);
+            for (int n = 0; n < 5; n++) {
+                Check.due("no longer told " + n, boat.wants(0, 0, n), n == 0 ? 10 : 0);
+            }
+            again(boat, WINTER + TWO_THINGS, 3);
+            Check.due("nor then", boat.wants(0, 0, 0), 10);
         }
     }
 

@@ -20,6 +20,18 @@ public final class TapeEdgesTest {
         return boat.feed(CROSSES, CROSSES, CROSSES, CROSSES, CROSSES);
     }
 
+    static void face_fourConstants() {
+        Check.sentence("public static final int NONE = -1;");
+        Check.sentence("`NONE = -1`: There is none.");
+        Check.due("NONE", LastBoat.NONE, -1);
+        Check.sentence("`RANGE = -2`: A number that can't be.");
+        Check.due("RANGE", LastBoat.RANGE, -2);
+        Check.sentence("`FULL = -3`: No room.");
+        Check.due("FULL", LastBoat.FULL, -3);
+        Check.sentence("`STATE = -4`: Not as things are.");
+        Check.due("STATE", LastBoat.STATE, -4);
+    }
+
     static void termI_tapeHasAtMost900Bytes() {
         Check.sentence("THE TAPE has at most 900 bytes");
         LastBoat boat = new LastBoat();
